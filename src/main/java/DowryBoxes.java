@@ -37,13 +37,12 @@ public final class DowryBoxes {
     private final Village now;
     private final Village[] images = new Village[IMAGES];
     private final boolean[] imageKept = new boolean[IMAGES];
-    private final Sums sums = new Sums();
-    private final Judge judge = new Judge(sums);
+    private final Judge judge;
     private final Deeds deeds;
     private final Generations paper;
     private final Matching matching = new Matching();
     private final Tunes tunes = new Tunes();
-    private final Reader reader = new Reader();
+    private final Reader reader;
     private final int[] tape = new int[TAPE_ROOM];
     private int tapeBytes = 0;
     private int rusty = 0;
@@ -55,13 +54,20 @@ public final class DowryBoxes {
     private final int[] shareRow = new int[BOXES];
 
     public DowryBoxes() {
-        Text noLaw = new Text(0, reader);
-        now = new Village(noLaw);
+        Reader texts = new Reader();
+        Text noLaw = new Text(0, texts);
+        Village village = new Village(noLaw);
         for (int k = 0; k < IMAGES; k++) {
             images[k] = new Village(noLaw);
         }
-        deeds = new Deeds(now, judge, sums);
-        paper = new Generations(deeds);
+        Sums sums = new Sums();
+        Judge asked = new Judge(sums);
+        Deeds doer = new Deeds(village, asked, sums);
+        reader = texts;
+        now = village;
+        judge = asked;
+        deeds = doer;
+        paper = new Generations(doer);
     }
 
     // ---- boxes, suitors, terms ----
@@ -1714,8 +1720,15 @@ public final class DowryBoxes {
         /** The fewest PINS more; row has the first such sets. */
         int keepRule(Valley valley, int box, int d) {
             int all = 0;
+            int widest = 0;
             for (int bar = 0; bar < BARS; bar++) {
-                all |= valley.pins[box * BARS + bar];
+                row[bar] = valley.pins[box * BARS + bar];
+                all |= row[bar];
+                widest = Math.max(widest, bar > 0 ? Integer.bitCount(row[bar] ^ row[bar - 1]) : 0);
+            }
+            // Weighing all sets is dear, and the tune as it is is the only one without PINS more.
+            if (widest <= d) {
+                return 0;
             }
             Arrays.fill(near, 0);
             for (int bar = BARS - 1; bar >= 0; bar--) {

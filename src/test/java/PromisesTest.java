@@ -421,6 +421,13 @@ public final class PromisesTest {
         lawFault("bars bars", 5);
         lawFault("Bars", 0);
         lawFault("barss", 0);
+        lawFault("barsz", 0);
+        lawFault("zbars", 0);
+        lawFault("abars", 0);
+        lawFault("bars`", 4);
+        lawFault("bars{", 4);
+        lawFault("lasts 9:", 7);
+        lawFault("lasts 0/9", -1);
         lawFault("bars\t", 4);
         lawFault("bars" + (char) 233, 4);
         lawFault("likes ear+", 10);
@@ -590,6 +597,9 @@ public final class PromisesTest {
         due("count(5)", x.count(5), 2);
         due("undo()", x.undo(), 3);
         due("count(13)", x.count(13), 5);
+        for (int ahead = 0; ahead < 36; ahead++) {
+            ordersThatFail(ahead);
+        }
         x.hear(0, 0, 0);
         law(x, "bars");
         x.force(-1);
@@ -618,6 +628,22 @@ public final class PromisesTest {
         due("row()", x.row(), 0);
         due("count(5) behind row()", x.count(5), 0);
         due("undo()", x.undo(), -3);
+    }
+
+    /** However many deeds there were ahead of ORDERS that can't be, all of them can be undone behind these. */
+    private static void ordersThatFail(int ahead) {
+        DowryBoxes x = new DowryBoxes();
+        for (int i = 0; i < ahead; i++) {
+            x.pass();
+        }
+        due("orders()", orders(x, "pass times 17;snap 0 of 0"), -3);
+        int kept = Math.min(ahead, 16);
+        due("count(5) behind " + ahead, x.count(5), kept);
+        for (int i = 1; i <= kept; i++) {
+            due("undo() behind " + ahead, x.undo(), 3);
+            due("year", x.count(13), ahead - i);
+        }
+        due("undo() behind " + ahead, x.undo(), -3);
     }
 
     private static void hearing() {
@@ -1014,6 +1040,18 @@ public final class PromisesTest {
         due("at(1, 1)", x.at(1, 1), 6);
         due("back(0) again", x.back(0), 0);
         due("count(4)", x.count(4), 2);
+        DowryBoxes y = new DowryBoxes();
+        y.box(1);
+        y.image(0);
+        law(y, "lasts 21");
+        y.force(0);
+        y.image(1);
+        y.back(0);
+        due("law 0 anew", law(y, "lasts 22"), 0);
+        due("force(0)", y.force(0), -1);
+        due("of(0, 5)", y.of(0, 5), 22);
+        y.back(1);
+        due("law 0 as it was", y.of(0, 5), 21);
     }
 
     private static void counts() {
