@@ -343,6 +343,7 @@ public final class PromisesTest {
         due("/ towards 0", lasts("lasts [0 - 7] / 2 + 10"), 7);
         due("% what is left", lasts("lasts [0 - 7] % 2 + 10"), 9);
         due("1,000,000,000", lasts("lasts 1000 * 1000 * 1000 / 1000 / 1000 / 1000"), 1);
+        due("as much below 0", lasts("lasts [0 - 1000 * 1000 * 1000] / 1000 / 1000 / 1000 + 3"), 2);
         due("beyond it", lasts("lasts 9;lasts [1000 * 1000 * 1000 + 1] / 1000"), 9);
         due("beyond it below", lasts("lasts 9;lasts 0 - 1000 * 1000 * 1000 - 1"), 9);
         due("far beyond it", lasts("lasts 9;lasts 1000 * 1000 * 1000 * 1000 / 1000 / 1000 / 1000 / 1000"), 9);
@@ -488,6 +489,11 @@ public final class PromisesTest {
         ordersFault(times("pass;", 11) + "pass", -1);
         ordersFault(times("pass;", 12) + "x", 60);
         ordersFault("   ", 3);
+        lawFault(times("+", 400), 0);
+        lawFault("lasts 1" + times("+1", 49) + times(" ", 295), -1);
+        lawFault("bars" + times(" ", 395) + "+", 399);
+        lawFault("bars" + times(" ", 395) + ";", 400);
+        ordersFault("pass" + times(" ", 392) + ";pas", 397);
     }
 
     private static void deeds() {
@@ -1050,8 +1056,25 @@ public final class PromisesTest {
         due("law 0 anew", law(y, "lasts 22"), 0);
         due("force(0)", y.force(0), -1);
         due("of(0, 5)", y.of(0, 5), 22);
+        y.suitor(3, 33);
+        y.hear(3, 4, 1);
+        y.pins(0, 3, 8);
         y.back(1);
         due("law 0 as it was", y.of(0, 5), 21);
+        due("suitor 0 anew", y.suitor(5, 55), 0);
+        y.hear(5, 6, 0);
+        y.pins(0, 5, 32);
+        y.image(0);
+        y.back(1);
+        y.suitor(6, 6);
+        y.hear(0, 0, 1);
+        due("which()", y.which(), 0);
+        y.back(0);
+        due("at(0, 0)", y.at(0, 0), 5);
+        due("at(0, 1)", y.at(0, 1), 55);
+        due("which()", y.which(), 1);
+        due("of(0, 12)", y.of(0, 12), 32);
+        due("of(0, 10)", y.of(0, 10), 0);
     }
 
     private static void counts() {
