@@ -473,7 +473,7 @@ public final class DowryBoxes {
     }
 
     private int leastShare(int k) {
-        int least = Integer.MAX_VALUE;
+        int least = BOXES * MOST_YEARS;
         for (int sister = 0; sister < k; sister++) {
             int share = 0;
             for (int box = 0; box < now.valley.boxes; box++) {
@@ -873,8 +873,9 @@ public final class DowryBoxes {
         static final int AND = 12;
         static final int OR = 13;
 
-        static final int BROKEN = Integer.MIN_VALUE;
         static final long BOUND = 1000000000L;
+        /** Beyond what any SUM can be. */
+        static final int BROKEN = -2000000000;
 
         /** Words by number: LEFT and NOTES_OF have one for each BOX. */
         static final int BOX_WORD = 0;
@@ -1771,7 +1772,7 @@ public final class DowryBoxes {
 
         private int cheapest(int bar, int d) {
             int found = 0;
-            int least = Integer.MAX_VALUE;
+            int least = FAR;
             for (int set = 0; set < SETS; set++) {
                 boolean may = bar == 0 || Integer.bitCount(set ^ row[bar - 1]) <= d;
                 if (may && more[bar * SETS + set] < least) {

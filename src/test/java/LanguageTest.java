@@ -101,6 +101,13 @@ public final class LanguageTest {
         while (imports.find()) {
             want(imports.group(1).equals("java.util.Arrays"), "4: import " + imports.group(1));
         }
+        Set<String> library = Set.of("Integer.bitCount", "Math.max", "Math.min", "Math.abs", "Arrays.fill", "Arrays.copyOf",
+            "System.arraycopy");
+        Matcher used = Pattern.compile("\\b(Integer|Long|Short|Byte|Character|Boolean|Math|Arrays|System|String|StringBuilder|List)"
+            + "\\.(\\w+)").matcher(bare);
+        while (used.find()) {
+            want(library.contains(used.group()), "4: " + used.group());
+        }
         for (char c : text.toCharArray()) {
             want(c < 128, "4: a sign beyond 127");
         }
