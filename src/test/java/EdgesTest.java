@@ -67,10 +67,13 @@ public final class EdgesTest {
         for (int what = 0; what < counts.length; what++) {
             s.stays("count(" + what + ")", counts[what]);
         }
-        s.none("of(0, 0)", "at(0, 0)", "asks(0, 0, 0)", "fault()", "stopped()", "listen(0)", "listen(1)", "steady(0)", "about(0, 2)",
-            "keep(0, 0, -1)", "clash(0, 1, 0)", "best(0, 1, 0)", "filed(0, 1, 0, 0)", "shares(1, 1)", "again(0, -1)", "stands(0, 0)",
+        s.none("of(0, 0)", "at(0, 0)", "asks(0, 0, 0)", "fault()", "stopped()", "listen(0)", "listen(1)", "steady(0)",
+            "about(0, 2)",
+            "keep(0, 0, -1)", "clash(0, 1, 0)", "best(0, 1, 0)", "filed(0, 1, 0, 0)", "shares(1, 1)", "again(0, -1)",
+                "stands(0, 0)",
             "compare(0)", "drawn(0, 0)", "end(1)");
-        for (String zero : new String[] {"rust()", "status()", "which()", "about(0, 0)", "about(60, 1)", "shares(1, 0)", "shares(3, 0)",
+        for (String zero : new String[] {"rust()", "status()", "which()", "about(0, 0)", "about(60, 1)", "shares(1, 0)",
+            "shares(3, 0)",
             "ends(0)", "ends(60)", "compare(-1)", "forget()", "end(0)"}) {
             s.stays(zero, 0);
         }
@@ -107,8 +110,10 @@ public final class EdgesTest {
             s.due("of(" + i + ", 0)", 4 * i);
         }
         // Behind back() a number is given anew, to a box as it is at first.
-        Scene anew = new Scene("image(0)", "box(9)", "pins(0, 0, 255)", "pins(0, 7, 1)", "suitor(0, 0)", "snap(1, 0)", "wed(0, 0)", "back(0)");
-        anew.due("box(3)", 0, "of(0, 0)", 3, "of(0, 1)", 0, "of(0, 2)", 0, "of(0, 3)", -1, "of(0, 4)", 0, "of(0, 7)", 0, "of(0, 14)", 0);
+        Scene anew = new Scene("image(0)", "box(9)", "pins(0, 0, 255)", "pins(0, 7, 1)", "suitor(0, 0)", "snap(1, 0)",
+            "wed(0, 0)", "back(0)");
+        anew.due("box(3)", 0, "of(0, 0)", 3, "of(0, 1)", 0, "of(0, 2)", 0, "of(0, 3)", -1, "of(0, 4)", 0, "of(0, 7)", 0,
+            "of(0, 14)", 0);
     }
 
     private static void boxesTold() {
@@ -123,7 +128,8 @@ public final class EdgesTest {
         for (int what = 0; what < other.length; what++) {
             s.stays("of(1, " + what + ")", other[what]);
         }
-        s.none("of(0, -1)", "of(0, 15)", "of(0, MIN)", "of(0, MAX)", "of(-1, 0)", "of(3, 0)", "of(3, 14)", "of(MIN, 0)", "of(MAX, 0)");
+        s.none("of(0, -1)", "of(0, 15)", "of(0, MIN)", "of(0, MAX)", "of(-1, 0)", "of(3, 0)", "of(3, 14)", "of(MIN, 0)",
+            "of(MAX, 0)");
         // What a spring loses is as the law tells, though it has less.
         new Scene("box(0)", "law loses 9", "force(0)").due("of(0, 6)", 9, "pass()", 1, "of(0, 0)", 0);
     }
@@ -142,7 +148,8 @@ public final class EdgesTest {
         for (String box : new String[] {"-1", "3", "MIN", "MAX"}) {
             s.refuses("pins(" + box + ", 0, 0)", -2);
         }
-        s.due("pins(2, 3, 0)", 255, "of(2, 10)", 0, "pins(2, 3, 255)", 0, "of(2, 10)", 255, "pins(2, 0, 1)", 0, "pins(2, 7, 128)", 0);
+        s.due("pins(2, 3, 0)", 255, "of(2, 10)", 0, "pins(2, 3, 255)", 0, "of(2, 10)", 255, "pins(2, 0, 1)", 0,
+            "pins(2, 7, 128)", 0);
         s.due("of(2, 7)", 1, "of(2, 14)", 128, "of(2, 8)", 0, "of(2, 13)", 0, "of(1, 7)", 6, "of(0, 3)", 1, "pins(0, 0, 255)", 4);
     }
 
@@ -174,7 +181,8 @@ public final class EdgesTest {
         s.stays("at(1, 2)", 0);
         s.stays("at(2, 0)", 7);
         s.stays("at(2, 1)", 60);
-        s.none("at(2, 2)", "at(1, 3)", "at(1, -1)", "at(1, MIN)", "at(1, MAX)", "at(3, 0)", "at(-1, 0)", "at(-1, 2)", "at(MIN, 0)", "at(MAX, 2)");
+        s.none("at(2, 2)", "at(1, 3)", "at(1, -1)", "at(1, MIN)", "at(1, MAX)", "at(3, 0)", "at(-1, 0)", "at(-1, 2)",
+            "at(MIN, 0)", "at(MAX, 2)");
     }
 
     private static void asking() {
@@ -188,14 +196,17 @@ public final class EdgesTest {
         s.stays("asks(2, 0, 2)", 1);
         s.stays("asks(2, 2, 2)", 0);
         s.stays("asks(1, 2, 0)", 1);
-        s.none("asks(0, 0, 3)", "asks(0, 0, -1)", "asks(0, 0, MIN)", "asks(0, 0, MAX)", "asks(3, 0, 0)", "asks(-1, 0, 0)", "asks(0, 3, 0)",
-            "asks(0, -1, 0)", "asks(MAX, 0, 0)", "asks(0, MAX, 0)", "asks(MIN, MIN, MIN)", "asks(3, 0, 2)", "asks(0, 3, 2)", "asks(0, -1, 1)");
+        s.none("asks(0, 0, 3)", "asks(0, 0, -1)", "asks(0, 0, MIN)", "asks(0, 0, MAX)", "asks(3, 0, 0)", "asks(-1, 0, 0)",
+            "asks(0, 3, 0)",
+            "asks(0, -1, 0)", "asks(MAX, 0, 0)", "asks(0, MAX, 0)", "asks(MIN, MIN, MIN)", "asks(3, 0, 2)", "asks(0, 3, 2)",
+                "asks(0, -1, 1)");
     }
 
     private static void terms() {
         says(8, "A TERM: what it was. -1.");
         Scene s = Scene.ofAll();
-        for (String wrong : new String[] {"-1, 0", "3, 0", "MIN, 0", "MAX, 0", "0, -1", "0, 1000", "1, -1", "1, 11", "2, -1", "2, 10", "0, MAX", "2, MIN"}) {
+        for (String wrong : new String[] {"-1, 0", "3, 0", "MIN, 0", "MAX, 0", "0, -1", "0, 1000", "1, -1", "1, 11", "2, -1",
+            "2, 10", "0, MAX", "2, MIN"}) {
             s.refuses("terms(" + wrong + ")", -1);
         }
         s.due("terms(0, 999)", 1, "terms(0, 0)", 999, "terms(0, 5)", 0, "terms(1, 0)", 2, "terms(1, 10)", 0, "terms(1, 5)", 10);
@@ -217,13 +228,15 @@ public final class EdgesTest {
         s.due("end(380)", 380, "feed(0, 0, 0, 0, 0)", 400, "status()", 0);
         // "lasts 10+2 if 3>2;  ", then the same again: the fault is at the end.
         Scene order = new Scene("box(1)");
-        order.due("feed(1818325876, 1931489584, 724705385, 1713386302, 842735648)", 20, "end(17)", 17, "law()", 0, "force(0)", -1, "of(0, 5)", 12);
+        order.due("feed(1818325876, 1931489584, 724705385, 1713386302, 842735648)", 20, "end(17)", 17, "law()", 0,
+            "force(0)", -1, "of(0, 5)", 12);
         order.due("feed(1818325876, 1931489584, 724705385, 1713386302, 842735648)", 20);
         order.due("feed(1818325876, 1931489584, 724705385, 1713386302, 842735648)", 40, "law()", -6, "fault()", 40);
         // Each byte of each number, with and without a sign; a byte behind the tape's end is none of it.
         Scene signs = new Scene("box(1)", "box(1)", "box(1)", "box(1)", "box(1)", "box(1)");
         // 0 1 255, 1 1 255, 2 255 4, 3 7 128, 0 0 7, 5 7 129, 255 0.
-        signs.due("feed(130817, 33489663, 67307392, 1797, 125959936)", 20, "row()", 5, "rust()", 2, "of(0, 8)", 255, "of(1, 8)", 255);
+        signs.due("feed(130817, 33489663, 67307392, 1797, 125959936)", 20, "row()", 5, "rust()", 2, "of(0, 8)", 255,
+            "of(1, 8)", 255);
         signs.due("of(3, 14)", 128, "of(0, 7)", 7, "of(5, 14)", 129, "of(2, 1)", 0, "of(4, 1)", 0);
         // 0 0 128, 5 7 254, and 0 0 0 till the end.
         signs.due("feed(32773, 134086656, 0, 0, 0)", 20, "end(6)", 6, "row()", 2, "of(0, 7)", 128, "of(5, 14)", 254);
@@ -255,7 +268,8 @@ public final class EdgesTest {
         s.refuses("row()", -6);
         s.due("row 0 0 1", 1, "count(6)", 0, "status()", 0);
         s.refuses("row()", -6);
-        s.due("row 0 0 1 0 0 2 0 0 3", 3, "of(0, 7)", 3, "row 1 0 1", 0, "status()", 0, "count(6)", 0, "row 0", 0, "status()", 0, "count(6)", 0);
+        s.due("row 0 0 1 0 0 2 0 0 3", 3, "of(0, 7)", 3, "row 1 0 1", 0, "status()", 0, "count(6)", 0, "row 0", 0,
+            "status()", 0, "count(6)", 0);
         StringBuilder most = new StringBuilder();
         for (int i = 0; i < 133; i++) {
             most.append("0 ").append(i % 8).append(" ").append(i).append(" ");
@@ -291,11 +305,20 @@ public final class EdgesTest {
         s.refuses("law         ", -6, "fault() 8");
         s.refuses("law " + " ".repeat(400), -6, "fault() 400");
         s.due("tape bars bars", 9, "law()", -6, "count(6)", 0, "fault()", 5, "count(4)", 3);
-        s.due("law bars", 3, "law bars", 4, "law bars", 5, "count(4)", 6, "law bars bars", -5, "count(6)", 0, "fault()", -1, "count(4)", 6);
+        s.due("law bars", 3, "law bars", 4, "law bars", 5, "count(4)", 6, "law bars bars", -5, "count(6)", 0, "fault()", -1,
+            "count(4)", 6);
         s.refuses("law bars", -5);
         s.refuses("law()", -5);
         s.due("orders 5", -6, "fault()", 0, "tape bars bars", 9);
         s.refuses("law()", -5, "count(6) 0");
+        // Laws that are full of parts, all six, and the boxes by each of them.
+        Scene six = new Scene("box(9)", "box(1)");
+        for (int law = 0; law < 6; law++) {
+            six.due("law lasts " + "box+".repeat(48) + "1" + law + ";bars", law, "fault()", -1);
+        }
+        for (int law = 0; law < 6; law++) {
+            six.due("compare(" + law + ")", 10 + law + Math.min(58 + law, 60));
+        }
         // An image of fewer laws makes room.
         s.due("back(0)", 0, "count(4)", 2, "law lasts 21", 2, "force(2)", -1, "of(0, 5)", 21);
     }
@@ -309,7 +332,14 @@ public final class EdgesTest {
         s.due("tape pass;", 5, "orders()", -6, "count(6)", 0, "fault()", 5, "count(13)", 1);
         s.due("tape pass;pass", 9, "orders()", 2, "count(6)", 0, "count(13)", 3, "status()", 0, "fault()", -1);
         s.due("tape pass;wed 0 to 0", 15, "orders()", -3, "count(6)", 0, "count(13)", 3, "status()", -3);
-        s.due("orders pass if 1=2", 0, "status()", 0, "orders pass times 20 if year<999", 20, "orders pass times 3;pass if 1=2;pass times 4", 7);
+        s.due("orders pass if 1=2", 0, "status()", 0, "orders pass times 20 if year<999", 20,
+            "orders pass times 3;pass if 1=2;pass times 4", 7);
+        // However many texts were read, the next one has all its parts and brackets.
+        Scene many = new Scene();
+        for (int i = 1; i <= 20; i++) {
+            many.due("orders pass if " + "1+".repeat(48) + "1=[[[[[[[[49]]]]]]]]", 1, "count(13)", i, "fault()", -1);
+            many.due("orders pass if (1=1 or 1", -6, "fault()", 17);
+        }
         Scene none = new Scene();
         none.refuses("orders wed 0 to 0", -3, "stopped() 0");
         none.due("orders pass", 1);
@@ -320,8 +350,10 @@ public final class EdgesTest {
         Scene s = new Scene("box(1)");
         s.due("fault()", -1, "law bars 5", -6);
         s.stays("fault()", 5);
-        s.due("row 0 0 0", 1, "fault()", 5, "row()", -6, "fault()", 5, "orders pass", 1, "fault()", -1, "orders pass 5", -6, "fault()", 5);
-        s.due("orders pass;wed 9 to 9", -3, "fault()", -1, "law", -6, "fault()", 0, "law bars", 0, "fault()", -1, "orders pass;", -6, "fault()", 5);
+        s.due("row 0 0 0", 1, "fault()", 5, "row()", -6, "fault()", 5, "orders pass", 1, "fault()", -1, "orders pass 5", -6,
+            "fault()", 5);
+        s.due("orders pass;wed 9 to 9", -3, "fault()", -1, "law", -6, "fault()", 0, "law bars", 0, "fault()", -1,
+            "orders pass;", -6, "fault()", 5);
         for (int law = 1; law < 6; law++) {
             s.does("law bars");
         }
@@ -336,8 +368,10 @@ public final class EdgesTest {
         s.stays("stopped()", 0);
         s.due("law bars", 0, "stopped()", 0, "law 5", -6, "stopped()", 0, "pull(0, 0, 0)", -3, "stopped()", 0);
         s.due("orders " + "pass;".repeat(11) + "snap 9 of 0", -3, "stopped()", 11, "orders pass", 1, "stopped()", -1);
-        s.due("orders pass;pass if 1=2;snap 0 of 0 times 2;snap 9 of 9", -3, "stopped()", 2, "orders pass;;", -6, "stopped()", -1);
-        s.due("orders snap 1/0 of 0", -3, "stopped()", 0, "orders()", -6, "stopped()", -1, "orders pass;snap 9 of 0", -3, "stopped()", 1);
+        s.due("orders pass;pass if 1=2;snap 0 of 0 times 2;snap 9 of 9", -3, "stopped()", 2, "orders pass;;", -6,
+            "stopped()", -1);
+        s.due("orders snap 1/0 of 0", -3, "stopped()", 0, "orders()", -6, "stopped()", -1, "orders pass;snap 9 of 0", -3,
+            "stopped()", 1);
         s.due("image(0)", 0, "orders pass", 1, "back(0)", 0, "stopped()", -1);
     }
 
@@ -356,7 +390,8 @@ public final class EdgesTest {
             s.does("law lasts 1" + law);
         }
         s.refuses("force(6)", -2);
-        s.due("force(5)", 0, "of(0, 5)", 15, "force(-1)", 5, "count(12)", -1, "of(0, 5)", 1, "pass()", 1, "force(3)", -1, "count(5)", 1);
+        s.due("force(5)", 0, "of(0, 5)", 15, "force(-1)", 5, "count(12)", -1, "of(0, 5)", 1, "pass()", 1, "force(3)", -1,
+            "count(5)", 1);
     }
 
     // ---- 18 to 22 ----
@@ -405,7 +440,8 @@ public final class EdgesTest {
         s.refuses("wed(0, 0)", -3);
         s.refuses("wed(1, 1)", -3);
         s.refuses("wed(2, 0)", -3);
-        s.due("wed(2, 2)", 4, "at(2, 2)", 2, "of(2, 3)", 2, "count(2)", 2, "count(5)", 5, "status()", 0, "wed(1, 0)", 3, "count(2)", 3);
+        s.due("wed(2, 2)", 4, "at(2, 2)", 2, "of(2, 3)", 2, "count(2)", 2, "count(5)", 5, "status()", 0, "wed(1, 0)", 3,
+            "count(2)", 3);
         s.refuses("wed(1, 0)", -3);
         Scene full = new Scene();
         for (int i = 0; i < 6; i++) {
@@ -432,9 +468,11 @@ public final class EdgesTest {
         says(22, "The latest pull(), snap(), wed(), pass() (by ORDERS, too; 16 are kept) is undone: 0 .. 3. -3 there is none");
         Scene s = Scene.ofAll();
         s.due("count(5)", 4, "undo()", 3, "count(13)", 0, "of(0, 0)", 9, "of(1, 0)", 4, "of(0, 4)", 11, "count(5)", 3);
-        s.due("undo()", 2, "of(0, 3)", -1, "of(0, 4)", 0, "undo()", 1, "of(1, 2)", 0, "undo()", 0, "of(0, 7)", 5, "count(5)", 0, "status()", 0);
+        s.due("undo()", 2, "of(0, 3)", -1, "of(0, 4)", 0, "undo()", 1, "of(1, 2)", 0, "undo()", 0, "of(0, 7)", 5,
+            "count(5)", 0, "status()", 0);
         s.refuses("undo()", -3);
-        s.due("force(-1)", 0, "orders pull 0 at 0 of 0;snap 0 of 0;wed 0 to 0;pass", 4, "count(5)", 4, "undo()", 3, "undo()", 2, "undo()", 1, "undo()", 0);
+        s.due("force(-1)", 0, "orders pull 0 at 0 of 0;snap 0 of 0;wed 0 to 0;pass", 4, "count(5)", 4, "undo()", 3,
+            "undo()", 2, "undo()", 1, "undo()", 0);
         s.refuses("undo()", -3);
         Scene full = new Scene();
         for (int i = 1; i <= 16; i++) {
@@ -467,7 +505,8 @@ public final class EdgesTest {
 
     private static void whatCantBeUndone() {
         says(22, "(nothing that was ahead of a box(), pins(), suitor(), terms(), row() that was not REFUSED can be undone)");
-        for (String call : new String[] {"box(1)", "pins(0, 0, 4)", "suitor(0, 0)", "terms(0, 1)", "terms(1, 2)", "terms(2, 0)", "row 0 0 4", "row 9"}) {
+        for (String call : new String[] {"box(1)", "pins(0, 0, 4)", "suitor(0, 0)", "terms(0, 1)", "terms(1, 2)",
+            "terms(2, 0)", "row 0 0 4", "row 9"}) {
             Scene s = Scene.ofAll();
             s.does("end(0)", call);
             s.due("status()", 0, "count(5)", 0);
@@ -475,7 +514,8 @@ public final class EdgesTest {
             s.due("snap(6, 0)", 5, "count(5)", 1, "undo()", 1);
             s.refuses("undo()", -3);
         }
-        for (String call : new String[] {"box(21)", "pins(0, 0, 256)", "pins(3, 0, 0)", "suitor(8, 0)", "terms(0, 1000)", "hear(0, 0, 0)", "forget()",
+        for (String call : new String[] {"box(21)", "pins(0, 0, 256)", "pins(3, 0, 0)", "suitor(8, 0)", "terms(0, 1000)",
+            "hear(0, 0, 0)", "forget()",
             "force(1)", "image(1)", "generations(1, 1)", "law bars", "orders pass if 1=2", "feed(0, 0, 0, 0, 0)", "end(1)"}) {
             Scene s = Scene.ofAll();
             s.does(call);
@@ -502,7 +542,8 @@ public final class EdgesTest {
         for (String wrong : new String[] {"-1", "2", "MIN", "MAX"}) {
             s.refuses("hear(0, 0, " + wrong + ")", -1);
         }
-        s.due("hear(7, 7, 0)", 2, "hear(7, 7, 0)", 3, "hear(0, 0, 0)", 4, "hear(0, 7, 0)", 5, "hear(7, 0, 1)", 6, "hear(0, 2, 1)", 7);
+        s.due("hear(7, 7, 0)", 2, "hear(7, 7, 0)", 3, "hear(0, 0, 0)", 4, "hear(0, 7, 0)", 5, "hear(7, 0, 1)", 6,
+            "hear(0, 2, 1)", 7);
         s.due("hear(0, 2, 1)", 8, "count(3)", 8, "status()", 0);
         s.refuses("hear(0, 0, 0)", -5);
         s.refuses("hear(0, 0, 2)", -1);
@@ -528,7 +569,8 @@ public final class EdgesTest {
         s.due("hear(0, 2, 0)", 2);
         s.stays("which()", 0);
         Scene six = new Scene("box(1)", "box(1)", "box(1)", "box(1)", "box(1)", "box(1)", "pins(5, 7, 128)", "pins(0, 0, 1)");
-        six.due("which()", 63, "hear(7, 7, 1)", 1, "which()", 32, "forget()", 1, "hear(0, 0, 1)", 1, "which()", 1, "hear(7, 7, 0)", 2, "which()", 1);
+        six.due("which()", 63, "hear(7, 7, 1)", 1, "which()", 32, "forget()", 1, "hear(0, 0, 1)", 1, "which()", 1,
+            "hear(7, 7, 0)", 2, "which()", 1);
     }
 
     private static void listening() {
@@ -575,7 +617,8 @@ public final class EdgesTest {
         s.stays("about(60, 1)", 58);
         s.stays("about(60, 3)", 0);
         s.stays("about(60, 4)", 2);
-        s.none("about(60, 2)", "about(60, 5)", "about(60, -1)", "about(60, MIN)", "about(60, MAX)", "about(-1, 0)", "about(61, 0)", "about(MIN, 0)",
+        s.none("about(60, 2)", "about(60, 5)", "about(60, -1)", "about(60, MIN)", "about(60, MAX)", "about(-1, 0)",
+            "about(61, 0)", "about(MIN, 0)",
             "about(MAX, 0)", "about(61, 3)", "about(-1, 4)");
         Scene none = new Scene("box(0)");
         none.stays("about(0, 0)", 0);
@@ -600,7 +643,8 @@ public final class EdgesTest {
         s.stays("keep(2, 0, -1)", 56);
         s.stays("keep(2, 0, 0)", 255);
         s.stays("keep(2, 0, 7)", 255);
-        s.none("keep(2, 0, -2)", "keep(2, 0, 8)", "keep(2, 0, MIN)", "keep(2, 0, MAX)", "keep(2, -1, -1)", "keep(2, 9, -1)", "keep(2, MIN, 0)",
+        s.none("keep(2, 0, -2)", "keep(2, 0, 8)", "keep(2, 0, MIN)", "keep(2, 0, MAX)", "keep(2, -1, -1)", "keep(2, 9, -1)",
+            "keep(2, MIN, 0)",
             "keep(2, MAX, 0)", "keep(3, 0, -1)", "keep(-1, 0, -1)", "keep(MIN, 0, 0)", "keep(MAX, 0, 0)");
     }
 
@@ -614,8 +658,10 @@ public final class EdgesTest {
         s.stays("clash(0, 2, 0)", 0);
         s.stays("clash(0, 2, 7)", 0);
         s.stays("clash(2, 0, 7)", 3);
-        s.none("clash(0, 0, 0)", "clash(2, 2, 0)", "clash(0, 2, -1)", "clash(0, 2, 8)", "clash(0, 2, MIN)", "clash(0, 2, MAX)", "clash(0, 3, 0)",
-            "clash(3, 0, 0)", "clash(0, -1, 0)", "clash(-1, 0, 0)", "clash(MAX, 0, 0)", "clash(0, MIN, 0)", "clash(3, 3, 0)", "clash(-1, -1, 0)");
+        s.none("clash(0, 0, 0)", "clash(2, 2, 0)", "clash(0, 2, -1)", "clash(0, 2, 8)", "clash(0, 2, MIN)", "clash(0, 2, MAX)",
+            "clash(0, 3, 0)",
+            "clash(3, 0, 0)", "clash(0, -1, 0)", "clash(-1, 0, 0)", "clash(MAX, 0, 0)", "clash(0, MIN, 0)", "clash(3, 3, 0)",
+                "clash(-1, -1, 0)");
     }
 
     private static void bestTurns() {
@@ -628,7 +674,8 @@ public final class EdgesTest {
         s.stays("best(0, 2, 0)", 4);
         s.stays("best(0, 2, 1)", 0);
         s.stays("best(2, 0, 0)", 3);
-        s.none("best(0, 2, 2)", "best(0, 2, -1)", "best(0, 2, MIN)", "best(0, 2, MAX)", "best(0, 0, 0)", "best(0, 0, 1)", "best(0, 3, 0)",
+        s.none("best(0, 2, 2)", "best(0, 2, -1)", "best(0, 2, MIN)", "best(0, 2, MAX)", "best(0, 0, 0)", "best(0, 0, 1)",
+            "best(0, 3, 0)",
             "best(3, 0, 0)", "best(-1, 0, 0)", "best(0, -1, 1)", "best(MAX, MIN, 0)");
     }
 
@@ -644,8 +691,10 @@ public final class EdgesTest {
         s.stays("filed(2, 0, 5, 0)", 1);
         s.stays("filed(2, 0, 5, 1)", 0);
         s.stays("filed(2, 0, 5, 2)", 4);
-        s.none("filed(0, 2, 0, 3)", "filed(0, 2, 0, -1)", "filed(0, 2, 0, MIN)", "filed(0, 2, 0, MAX)", "filed(0, 2, 8, 0)", "filed(0, 2, -1, 0)",
-            "filed(0, 2, MIN, 0)", "filed(0, 2, MAX, 0)", "filed(0, 0, 0, 0)", "filed(0, 3, 0, 0)", "filed(3, 0, 0, 0)", "filed(-1, 0, 0, 0)",
+        s.none("filed(0, 2, 0, 3)", "filed(0, 2, 0, -1)", "filed(0, 2, 0, MIN)", "filed(0, 2, 0, MAX)", "filed(0, 2, 8, 0)",
+            "filed(0, 2, -1, 0)",
+            "filed(0, 2, MIN, 0)", "filed(0, 2, MAX, 0)", "filed(0, 0, 0, 0)", "filed(0, 3, 0, 0)", "filed(3, 0, 0, 0)",
+                "filed(-1, 0, 0, 0)",
             "filed(0, -1, 0, 0)", "filed(MAX, MAX, 0, 0)");
     }
 
@@ -663,7 +712,8 @@ public final class EdgesTest {
         s.stays("shares(3, 1)", 0);
         s.stays("shares(3, 2)", 1);
         s.stays("shares(3, 3)", 2);
-        s.none("shares(0, 0)", "shares(4, 0)", "shares(-1, 0)", "shares(MIN, 0)", "shares(MAX, 0)", "shares(1, -1)", "shares(1, 4)", "shares(3, 4)",
+        s.none("shares(0, 0)", "shares(4, 0)", "shares(-1, 0)", "shares(MIN, 0)", "shares(MAX, 0)", "shares(1, -1)",
+            "shares(1, 4)", "shares(3, 4)",
             "shares(1, MIN)", "shares(1, MAX)", "shares(0, 1)", "shares(4, 1)");
     }
 
@@ -677,7 +727,8 @@ public final class EdgesTest {
         s.stays("again(2, -1)", 21);
         s.stays("again(2, 0)", 1);
         s.stays("again(2, 20)", 67);
-        s.none("again(0, 10)", "again(2, 21)", "again(0, -2)", "again(0, MIN)", "again(0, MAX)", "again(3, -1)", "again(-1, -1)", "again(MIN, 0)", "again(MAX, 0)");
+        s.none("again(0, 10)", "again(2, 21)", "again(0, -2)", "again(0, MIN)", "again(0, MAX)", "again(3, -1)",
+            "again(-1, -1)", "again(MIN, 0)", "again(MAX, 0)");
     }
 
     private static void ends() {
@@ -698,8 +749,10 @@ public final class EdgesTest {
         s.stays("stands(1, 2)", 960000000000L);
         s.stays("stands(2, 0)", 0);
         s.stays("stands(2, 60)", 0);
-        s.none("stands(1, -1)", "stands(1, 61)", "stands(1, MIN)", "stands(1, MAX)", "stands(3, 0)", "stands(-1, 0)", "stands(MIN, 0)", "stands(MAX, 60)");
-        s.due("terms(1, 10)", 2, "stands(1, 1)", 1000000000000L, "stands(1, 2)", 0, "stands(1, 60)", 0, "terms(1, 0)", 10, "stands(1, 60)", 1000000000000L);
+        s.none("stands(1, -1)", "stands(1, 61)", "stands(1, MIN)", "stands(1, MAX)", "stands(3, 0)", "stands(-1, 0)",
+            "stands(MIN, 0)", "stands(MAX, 60)");
+        s.due("terms(1, 10)", 2, "stands(1, 1)", 1000000000000L, "stands(1, 2)", 0, "stands(1, 60)", 0, "terms(1, 0)", 10,
+            "stands(1, 60)", 1000000000000L);
     }
 
     private static void compare() {
@@ -723,12 +776,15 @@ public final class EdgesTest {
         none.refuses("generations(1000000, 60)", -3);
         none.refuses("generations(1000001, 1)", -1);
         none.refuses("generations(0, 0)", -1);
-        none.due("suitor(0, 0)", 0, "generations(0, 1)", -3, "box(1)", 0, "generations(0, 1)", 0, "generations(1000000, 60)", 0, "status()", 0);
+        none.due("suitor(0, 0)", 0, "generations(0, 1)", -3, "box(1)", 0, "generations(0, 1)", 0,
+            "generations(1000000, 60)", 0, "status()", 0);
         Scene s = Scene.ofAll();
-        for (String wrong : new String[] {"-1, 1", "1000001, 1", "MIN, 1", "MAX, 1", "0, 0", "0, 61", "0, -1", "0, MIN", "0, MAX"}) {
+        for (String wrong : new String[] {"-1, 1", "1000001, 1", "MIN, 1", "MAX, 1", "0, 0", "0, 61", "0, -1", "0, MIN",
+            "0, MAX"}) {
             s.refuses("generations(" + wrong + ")", -1);
         }
-        s.due("wed(2, 2)", 4, "generations(0, 3)", 0, "drawn(0, 2)", 7, "drawn(2, 2)", 1, "generations(0, 4)", 1, "drawn(2, 2)", 0);
+        s.due("wed(2, 2)", 4, "generations(0, 3)", 0, "drawn(0, 2)", 7, "drawn(2, 2)", 1, "generations(0, 4)", 1,
+            "drawn(2, 2)", 0);
         s.due("generations(0, 9)", 1, "drawn(0, 2)", 1, "generations(0, 10)", 2, "drawn(0, 2)", 0, "count(2)", 2, "count(5)", 5);
     }
 
@@ -741,10 +797,12 @@ public final class EdgesTest {
         s.stays("drawn(0, 0)", 7);
         s.stays("drawn(0, 1)", 9);
         s.stays("drawn(0, 2)", 10);
-        s.none("drawn(0, 3)", "drawn(0, -1)", "drawn(0, MIN)", "drawn(0, MAX)", "drawn(1, 0)", "drawn(-1, 0)", "drawn(MIN, 0)", "drawn(MAX, 0)");
+        s.none("drawn(0, 3)", "drawn(0, -1)", "drawn(0, MIN)", "drawn(0, MAX)", "drawn(1, 0)", "drawn(-1, 0)", "drawn(MIN, 0)",
+            "drawn(MAX, 0)");
         s.does("box(1)", "pins(0, 0, 0)");
         s.none("drawn(1, 0)");
-        s.due("drawn(0, 0)", 7, "generations(0, 0)", -1, "drawn(0, 0)", 7, "generations(2, 1)", 0, "drawn(1, 1)", 0, "drawn(0, 0)", 0);
+        s.due("drawn(0, 0)", 7, "generations(0, 0)", -1, "drawn(0, 0)", 7, "generations(2, 1)", 0, "drawn(1, 1)", 0,
+            "drawn(0, 0)", 0);
     }
 
     private static void image() {
@@ -753,9 +811,11 @@ public final class EdgesTest {
         for (String k : new String[] {"-1", "2", "MIN", "MAX"}) {
             s.refuses("image(" + k + ")", -1);
         }
-        s.due("image(1)", 0, "status()", 0, "count(5)", 4, "count(6)", 9, "box(5)", 3, "image(0)", 0, "back(1)", 0, "count(0)", 3, "back(0)", 0);
+        s.due("image(1)", 0, "status()", 0, "count(5)", 4, "count(6)", 9, "box(5)", 3, "image(0)", 0, "back(1)", 0,
+            "count(0)", 3, "back(0)", 0);
         s.due("count(0)", 4, "count(2)", 1, "of(0, 4)", 10);
-        new Scene().due("image(0)", 0, "image(1)", 0, "box(1)", 0, "back(0)", 0, "count(0)", 0, "box(1)", 0, "back(1)", 0, "count(0)", 0);
+        new Scene().due("image(0)", 0, "image(1)", 0, "box(1)", 0, "back(0)", 0, "count(0)", 0, "box(1)", 0, "back(1)", 0,
+            "count(0)", 0);
     }
 
     private static void back() {
@@ -793,10 +853,14 @@ public final class EdgesTest {
         says(43, "What the latest call of box, pins, suitor, terms, row, law, orders, force, pull, snap, wed, pass, undo, hear, generations, "
             + "image, back was REFUSED by; 0 if it was not, or ahead of any.");
         new Scene().due("status()", 0);
-        String[] fine = {"box(1)", "pins(0, 0, 1)", "suitor(0, 0)", "terms(0, 5)", "row 0 0 1", "law bars", "orders pass", "force(-1)",
-            "pull(2, 0, 0)", "snap(0, 0)", "wed(2, 2)", "pass()", "undo()", "hear(0, 0, 0)", "generations(1, 1)", "image(1)", "back(0)"};
-        String[] wrong = {"box(21)", "pins(9, 0, 1)", "suitor(8, 0)", "terms(0, -5)", "row()", "law", "orders wed 9 to 9", "force(9)",
-            "pull(0, 0, 0)", "snap(1, 1)", "wed(9, 9)", "pass()", "undo()", "hear(9, 0, 0)", "generations(1, 0)", "image(9)", "back(1)"};
+        String[] fine = {"box(1)", "pins(0, 0, 1)", "suitor(0, 0)", "terms(0, 5)", "row 0 0 1", "law bars", "orders pass",
+            "force(-1)",
+            "pull(2, 0, 0)", "snap(0, 0)", "wed(2, 2)", "pass()", "undo()", "hear(0, 0, 0)", "generations(1, 1)", "image(1)",
+                "back(0)"};
+        String[] wrong = {"box(21)", "pins(9, 0, 1)", "suitor(8, 0)", "terms(0, -5)", "row()", "law", "orders wed 9 to 9",
+            "force(9)",
+            "pull(0, 0, 0)", "snap(1, 1)", "wed(9, 9)", "pass()", "undo()", "hear(9, 0, 0)", "generations(1, 0)", "image(9)",
+                "back(1)"};
         int[] why = {-1, -2, -1, -1, -6, -6, -3, -2, -3, -3, -2, -3, -3, -1, -1, -1, -2};
         for (int i = 0; i < fine.length; i++) {
             Scene granted = Scene.ofAll();
@@ -814,8 +878,10 @@ public final class EdgesTest {
             refused.due("status()", 0, wrong[i], why[i]);
             refused.stays("status()", why[i]);
         }
-        for (String question : new String[] {"of(0, 0)", "at(0, 0)", "asks(0, 0, 0)", "feed(0, 0, 0, 0, 0)", "end(3)", "rust()", "fault()", "stopped()",
-            "forget()", "which()", "listen(0)", "steady(0)", "about(0, 0)", "keep(0, 0, 0)", "clash(0, 1, 0)", "best(0, 1, 0)", "filed(0, 1, 0, 0)",
+        for (String question : new String[] {"of(0, 0)", "at(0, 0)", "asks(0, 0, 0)", "feed(0, 0, 0, 0, 0)", "end(3)",
+            "rust()", "fault()", "stopped()",
+            "forget()", "which()", "listen(0)", "steady(0)", "about(0, 0)", "keep(0, 0, 0)", "clash(0, 1, 0)", "best(0, 1, 0)",
+                "filed(0, 1, 0, 0)",
             "shares(1, 0)", "again(0, 0)", "ends(0)", "stands(0, 0)", "compare(0)", "drawn(0, 0)", "count(0)"}) {
             Scene s = Scene.ofAll();
             s.does("back(1)", question);

@@ -136,7 +136,8 @@ public final class TermsTest {
         says("A NOTE: a TOOTH that a PIN sounds at a BAR, which is not BROKEN.");
         Scene s = new Scene("box(1)", "suitor(0, 0)", "pins(0, 0, 129)", "pins(0, 7, 129)");
         s.due("of(0, 1)", 4, "asks(0, 0, 0)", 2, "snap(0, 0)", 2, "asks(0, 0, 0)", 0, "snap(7, 0)", 0);
-        s.due("of(0, 7)", 129, "of(0, 14)", 129, "of(0, 1)", 0);
+        s.due("of(0, 7)", 129, "of(0, 14)", 129, "of(0, 1)", 0, "pins(0, 3, 255)", 0, "of(0, 10)", 255, "of(0, 1)", 6);
+        s.due("row 0 4 255", 1, "of(0, 11)", 255, "of(0, 1)", 12, "asks(0, 0, 0)", 0);
         Scene full = new Scene("box(1)");
         for (int bar = 0; bar < 8; bar++) {
             full.due("pins(0, " + bar + ", 255)", 0, "of(0, 1)", 8 * bar + 8);
@@ -316,7 +317,8 @@ public final class TermsTest {
         s.due("pass()", 2, "of(3, 0)", 0, "pass()", 3, "of(3, 0)", 0);
 
         says("LEFT of all that are wed is one less; at 0 they are wed no more; it is the next YEAR");
-        Scene t = new Scene("box(1)", "box(2)", "box(5)", "suitor(0, 0)", "suitor(0, 0)", "suitor(0, 0)", "wed(0, 2)", "wed(1, 0)");
+        Scene t = new Scene("box(1)", "box(2)", "box(5)", "suitor(0, 0)", "suitor(0, 0)", "suitor(0, 0)", "wed(0, 2)",
+            "wed(1, 0)");
         t.due("pass()", 1, "of(0, 3)", -1, "of(0, 4)", 0, "at(2, 2)", -1, "of(1, 3)", 0, "of(1, 4)", 1, "of(2, 4)", 0);
         t.due("count(2)", 1, "wed(2, 2)", 5, "pass()", 2, "of(1, 3)", -1, "of(2, 4)", 4, "count(2)", 1, "wed(0, 0)", 1);
     }
@@ -413,14 +415,19 @@ public final class TermsTest {
         Scene gap = new Scene("box(10)", "box(0)", "box(20)", "suitor(0, 10)", "suitor(0, 20)");
         gap.due("about(0, 0)", 2, "about(0, 1)", 0, "about(0, 2)", 0, "about(0, 3)", 100, "about(0, 4)", 1);
         gap.does("suitor(0, 60)", "suitor(0, 60)", "suitor(0, 1)");
-        gap.due("about(1, 0)", 3, "about(1, 1)", 1, "about(1, 3)", 4, "about(0, 3)", 100, "law lasts 60 if box=0;lasts 1 if box=1", 0);
-        gap.due("force(0)", -1, "about(0, 0)", 3, "about(0, 2)", 2, "about(0, 3)", 4, "law lasts 30 if box=0;lasts 1 if box=1", 1);
+        gap.due("about(1, 0)", 3, "about(1, 1)", 1, "about(1, 3)", 4, "about(0, 3)", 100,
+            "law lasts 60 if box=0;lasts 1 if box=1", 0);
+        gap.due("force(0)", -1, "about(0, 0)", 3, "about(0, 2)", 2, "about(0, 3)", 4,
+            "law lasts 30 if box=0;lasts 1 if box=1", 1);
         gap.due("force(1)", 0, "about(0, 0)", 2, "about(0, 2)", 100, "about(0, 3)", 4, "about(0, 4)", 1);
         Scene full = new Scene();
         for (int i = 0; i < 6; i++) {
             full.does("box(0)", "suitor(0, 60)");
         }
         full.due("about(59, 0)", 0, "about(60, 0)", 6, "about(60, 1)", 360, "about(60, 2)", 0, "about(60, 7)", 5);
+        // Fewer boxes than were asked of before.
+        Scene fewer = new Scene("box(7)", "suitor(0, 7)", "suitor(0, 8)", "image(0)", "box(8)", "box(7)", "box(8)");
+        fewer.due("about(1, 0)", 2, "about(1, 1)", 0, "back(0)", 0, "about(1, 0)", 1, "about(1, 1)", 0, "about(1, 2)", 0);
     }
 
     private static void rules() {
@@ -435,6 +442,9 @@ public final class TermsTest {
         s.due("keep(0, 8, -1)", 0, "keep(0, 8, 0)", 255, "keep(0, 8, 1)", 0);
         s.due("keep(0, 7, -1)", 1, "keep(0, 7, 0)", 255, "keep(0, 7, 1)", 1, "keep(0, 7, 2)", 0);
         s.due("keep(0, 0, -1)", 56, "keep(0, 0, 7)", 255);
+        for (int tooth = 0; tooth < 8; tooth++) {
+            s.due("snap(" + tooth + ", 0)", 7 - tooth, "keep(0, 0, -1)", 56, "keep(0, 7, -1)", 1, "keep(0, 8, 0)", 255);
+        }
         s.none("keep(0, -1, -1)", "keep(0, 9, -1)", "keep(0, MIN, -1)", "keep(0, MAX, -1)");
         Scene last = new Scene("box(1)", "pins(0, 7, 255)");
         last.due("keep(0, 7, -1)", 1, "keep(0, 7, 6)", 1, "keep(0, 7, 5)", 0, "keep(0, 0, -1)", 56);
@@ -442,7 +452,8 @@ public final class TermsTest {
         says("KEPT: the fewest PINS more by which a BOX keeps a RULE; the first as a row of sets by BARS.");
         Scene between = new Scene("box(1)", "pins(0, 3, 6)", "pins(0, 4, 24)");
         between.due("keep(0, 4, -1)", 0, "keep(0, 3, -1)", 1, "keep(0, 3, 2)", 0, "keep(0, 3, 3)", 6, "keep(0, 3, 4)", 26);
-        between.due("keep(0, 3, 5)", 0, "keep(0, 2, -1)", 4, "keep(0, 2, 2)", 0, "keep(0, 2, 3)", 6, "keep(0, 2, 4)", 30, "keep(0, 2, 5)", 6);
+        between.due("keep(0, 3, 5)", 0, "keep(0, 2, -1)", 4, "keep(0, 2, 2)", 0, "keep(0, 2, 3)", 6, "keep(0, 2, 4)", 30,
+            "keep(0, 2, 5)", 6);
         Scene none = new Scene("box(1)");
         none.due("keep(0, 0, -1)", 0, "keep(0, 0, 0)", 0, "keep(0, 0, 7)", 0);
     }
@@ -515,10 +526,13 @@ public final class TermsTest {
         s.does("box(20)", "box(20)", "box(20)");
         s.due("shares(1, 0)", 120, "shares(2, 0)", 60, "shares(3, 0)", 40);
         for (int box = 0; box < 6; box++) {
-            s.due("shares(1, " + (1 + box) + ")", 0, "shares(2, " + (1 + box) + ")", box / 3, "shares(3, " + (1 + box) + ")", box / 2);
+            s.due("shares(1, " + (1 + box) + ")", 0);
+            s.due("shares(2, " + (1 + box) + ")", box / 3);
+            s.due("shares(3, " + (1 + box) + ")", box / 2);
         }
         s.none("shares(3, 7)", "shares(3, -1)", "shares(0, 0)", "shares(4, 0)");
-        s.due("law lasts 60 if box=5;lasts 0 if box<5", 0, "force(0)", -1, "shares(2, 0)", 0, "shares(2, 6)", 0, "shares(1, 0)", 60);
+        s.due("law lasts 60 if box=5;lasts 0 if box<5", 0, "force(0)", -1, "shares(2, 0)", 0, "shares(2, 6)", 0,
+            "shares(1, 0)", 60);
     }
 
     private static void again() {
@@ -561,7 +575,8 @@ public final class TermsTest {
         s.due("stands(0, 0)", 0, "stands(0, 60)", 0, "stands(1, 0)", all, "stands(1, 1)", all / 10 * 8, "stands(2, 0)", all);
         s.due("stands(2, 12)", all, "stands(1, 60)", 1532494, "stands(2, 60)", 989331701857L);
         s.due("terms(1, 0)", 2, "stands(1, 60)", all, "stands(2, 60)", all, "stands(0, 60)", 0);
-        s.due("terms(1, 10)", 0, "stands(1, 0)", all, "stands(1, 1)", 0, "stands(2, 19)", all, "stands(2, 20)", 0, "stands(2, 60)", 0);
+        s.due("terms(1, 10)", 0, "stands(1, 0)", all, "stands(1, 1)", 0, "stands(2, 19)", all, "stands(2, 20)", 0,
+            "stands(2, 60)", 0);
 
         says("YEAR by YEAR, by how much it has");
         Scene ten = new Scene("box(2)", "terms(1, 5)");
@@ -569,7 +584,8 @@ public final class TermsTest {
 
         says("each part times the rest by ten, and times DAMP by ten to one less, both cut; at 0 it stays.");
         s.due("terms(1, 3)", 10, "stands(1, 13)", 9688901040L, "stands(2, 60)", 669159123380L);
-        s.due("terms(1, 9)", 3, "stands(1, 12)", 1, "stands(1, 13)", 0, "stands(2, 19)", 999999999909L, "stands(2, 20)", 878423345307L);
+        s.due("terms(1, 9)", 3, "stands(1, 12)", 1, "stands(1, 13)", 0, "stands(2, 19)", 999999999909L,
+            "stands(2, 20)", 878423345307L);
         s.due("terms(1, 1)", 9, "stands(1, 60)", 1797010296L, "terms(1, 5)", 1, "stands(2, 60)", 3108801147L);
     }
 
@@ -616,7 +632,8 @@ public final class TermsTest {
         // Of two boxes seed 2 draws box 1, bar 2, tooth 3, then 2; seed 9 draws box 0, bar 1, tooth 1, then 0.
         Scene two = painted(2, 5);
         two.due("generations(2, 1)", 0, "drawn(0, 1)", 5, "drawn(1, 1)", 4, "drawn(0, 0)", 64, "drawn(1, 0)", 64);
-        two.due("generations(9, 1)", 0, "drawn(0, 0)", 63, "drawn(1, 0)", 64, "pull(1, 1, 0)", 63, "generations(9, 1)", 0, "drawn(0, 0)", 63);
+        two.due("generations(9, 1)", 0, "drawn(0, 0)", 63, "drawn(1, 0)", 64, "pull(1, 1, 0)", 63, "generations(9, 1)", 0,
+            "drawn(0, 0)", 63);
         // Of one box seed 0 draws twice: bar 1, tooth 1, then 1; bar 6, tooth 1, then 1 again.
         painted(1, 5).due("generations(0, 2)", 0, "drawn(0, 0)", 56);
 
@@ -630,7 +647,8 @@ public final class TermsTest {
     private static void generations() {
         says("GENERATIONS with a SEED, n 1 .. 60, on paper: s is the SEED (0 .. 1,000,000)");
         Scene s = painted(1, 20);
-        for (String wrong : new String[] {"-1, 1", "1000001, 1", "MIN, 1", "MAX, 1", "0, 0", "0, 61", "0, -1", "0, MIN", "0, MAX"}) {
+        for (String wrong : new String[] {"-1, 1", "1000001, 1", "MIN, 1", "MAX, 1", "0, 0", "0, 61", "0, -1", "0, MIN",
+            "0, MAX"}) {
             s.refuses("generations(" + wrong + ")", -1);
         }
         s.does("suitor(0, 0)", "law lasts 60", "force(0)", "wed(0, 0)", "force(-1)");
@@ -651,14 +669,16 @@ public final class TermsTest {
         says("then the YEAR passes.");
         Scene lose = painted(2, 9);
         lose.does("suitor(0, 0)", "suitor(0, 0)", "law lasts 1;loses 9 if year=1", "force(0)", "wed(0, 0)", "wed(1, 1)");
-        lose.due("generations(0, 1)", 2, "drawn(0, 1)", 9, "drawn(0, 2)", 0, "generations(0, 2)", 2, "drawn(0, 1)", 0, "drawn(1, 1)", 0);
+        lose.due("generations(0, 1)", 2, "drawn(0, 1)", 9, "drawn(0, 2)", 0, "generations(0, 2)", 2, "drawn(0, 1)", 0,
+            "drawn(1, 1)", 0);
     }
 
     private static void rows() {
         says("A ROW: the TAPE's bytes by threes: a BOX, a BAR, a set (a byte without sign): its PINS there; one that can't be, one "
             + "within which the TAPE ends is RUST: nothing.");
         Scene s = new Scene("box(1)", "box(1)");
-        s.due("row 0 0 0 0 0 255 1 7 255 1 7 128", 4, "rust()", 0, "of(0, 7)", 255, "of(1, 14)", 128, "of(0, 1)", 8, "of(1, 1)", 1);
+        s.due("row 0 0 0 0 0 255 1 7 255 1 7 128", 4, "rust()", 0, "of(0, 7)", 255, "of(1, 14)", 128, "of(0, 1)", 8,
+            "of(1, 1)", 1);
         s.due("row 2 0 1 255 0 1 0 8 1 0 255 1 1 0 7", 1, "rust()", 4, "of(1, 7)", 7, "of(0, 1)", 8, "of(1, 1)", 4);
         s.due("row 0 1 1 0", 1, "rust()", 1, "of(0, 8)", 1, "of(0, 7)", 255);
         s.due("row 0 1 2 0 2", 1, "rust()", 1, "of(0, 8)", 2, "of(0, 9)", 0);
@@ -675,12 +695,17 @@ public final class TermsTest {
         says("IMAGES 0, 1 keep all but the TAPE, FAULT, RUST, where ORDERS stopped, what can be undone (nothing, behind back()), the "
             + "latest GENERATIONS");
         Scene s = Scene.ofAll();
-        s.does("box(20)", "suitor(1, 1)", "law lasts 1", "force(-1)", "hear(7, 7, 0)", "terms(1, 9)", "terms(2, 8)", "pull(1, 1, 0)",
-            "orders pass;pass;wed 0 to 9", "law bars;;bars", "row 9 9 9 9 9 9 9 9 9", "snap(7, 0)", "generations(3, 2)", "tape pass;pass");
+        s.does("box(20)", "suitor(1, 1)", "law lasts 1", "force(-1)", "hear(7, 7, 0)", "terms(1, 9)", "terms(2, 8)",
+            "pull(1, 1, 0)",
+            "orders pass;pass;wed 0 to 9", "law bars;;bars", "row 9 9 9 9 9 9 9 9 9", "snap(7, 0)", "generations(3, 2)",
+                "tape pass;pass");
         s.due("drawn(3, 1)", 20, "back(0)", 0);
-        s.due("count(0)", 3, "count(1)", 3, "count(2)", 0, "count(3)", 1, "count(4)", 2, "count(12)", -1, "count(13)", 0, "count(14)", 2);
-        s.due("count(15)", 0, "of(0, 0)", 9, "of(0, 2)", 0, "of(0, 7)", 5, "of(0, 8)", 3, "of(0, 9)", 9, "of(1, 2)", 0, "of(1, 0)", 4);
-        s.due("compare(1)", 21, "at(2, 1)", 60, "which()", 3, "count(6)", 9, "fault()", 5, "rust()", 3, "stopped()", 2, "drawn(3, 1)", 20);
+        s.due("count(0)", 3, "count(1)", 3, "count(2)", 0, "count(3)", 1, "count(4)", 2, "count(12)", -1, "count(13)", 0,
+            "count(14)", 2);
+        s.due("count(15)", 0, "of(0, 0)", 9, "of(0, 2)", 0, "of(0, 7)", 5, "of(0, 8)", 3, "of(0, 9)", 9, "of(1, 2)", 0,
+            "of(1, 0)", 4);
+        s.due("compare(1)", 21, "at(2, 1)", 60, "which()", 3, "count(6)", 9, "fault()", 5, "rust()", 3, "stopped()", 2,
+            "drawn(3, 1)", 20);
         s.due("count(5)", 0);
         s.refuses("undo()", -3);
 
@@ -688,13 +713,20 @@ public final class TermsTest {
         s.due("back(0)", 0, "count(0)", 3, "box(7)", 3, "image(1)", 0, "back(0)", 0, "count(0)", 3, "back(1)", 0, "of(3, 0)", 7);
         s.due("image(0)", 0, "box(8)", 4, "back(0)", 0, "count(0)", 4, "back(1)", 0, "count(0)", 4);
         // What is made anew behind back() has the numbers of what the other image keeps.
-        Scene two = new Scene("image(0)", "box(3)", "box(20)", "pins(0, 0, 1)", "pins(0, 7, 128)", "suitor(1, 10)", "suitor(2, 20)",
-            "law lasts 11", "law lasts 12", "force(1)", "hear(0, 0, 1)", "hear(7, 7, 1)", "snap(2, 0)", "wed(0, 1)", "pass()", "image(1)");
-        two.due("back(0)", 0, "count(0)", 0, "box(9)", 0, "suitor(7, 59)", 0, "suitor(6, 58)", 1, "law lasts 41", 0, "law lasts 42", 1);
-        two.due("hear(5, 5, 0)", 1, "hear(6, 6, 0)", 2, "pins(0, 0, 6)", 0, "snap(3, 0)", 2, "box(2)", 1, "terms(0, 77)", 0, "wed(1, 0)", 2);
-        two.due("which()", 3, "back(1)", 0, "count(0)", 2, "of(0, 0)", 3, "of(1, 0)", 20, "of(0, 7)", 1, "of(0, 14)", 128, "of(0, 2)", 4);
-        two.due("of(0, 3)", 1, "of(0, 4)", 11, "of(1, 3)", -1, "of(1, 4)", 0, "at(0, 0)", 1, "at(0, 1)", 10, "at(1, 0)", 2, "at(1, 1)", 20);
+        Scene two = new Scene("image(0)", "box(3)", "box(20)", "pins(0, 0, 1)", "pins(0, 7, 128)", "suitor(1, 10)",
+            "suitor(2, 20)",
+            "law lasts 11", "law lasts 12", "force(1)", "hear(0, 0, 1)", "hear(7, 7, 1)", "snap(2, 0)", "wed(0, 1)", "pass()",
+                "image(1)");
+        two.due("back(0)", 0, "count(0)", 0, "box(9)", 0, "suitor(7, 59)", 0, "suitor(6, 58)", 1, "law lasts 41", 0,
+            "law lasts 42", 1);
+        two.due("hear(5, 5, 0)", 1, "hear(6, 6, 0)", 2, "pins(0, 0, 6)", 0, "snap(3, 0)", 2, "box(2)", 1, "terms(0, 77)", 0,
+            "wed(1, 0)", 2);
+        two.due("which()", 3, "back(1)", 0, "count(0)", 2, "of(0, 0)", 3, "of(1, 0)", 20, "of(0, 7)", 1, "of(0, 14)", 128,
+            "of(0, 2)", 4);
+        two.due("of(0, 3)", 1, "of(0, 4)", 11, "of(1, 3)", -1, "of(1, 4)", 0, "at(0, 0)", 1, "at(0, 1)", 10, "at(1, 0)", 2,
+            "at(1, 1)", 20);
         two.due("count(12)", 1, "count(13)", 1, "of(0, 5)", 12, "compare(0)", 22, "which()", 1, "count(3)", 2, "count(4)", 2);
-        two.due("back(0)", 0, "suitor(5, 5)", 0, "hear(7, 0, 1)", 1, "law lasts 51", 0, "back(1)", 0, "at(0, 0)", 1, "which()", 1, "compare(0)", 22);
+        two.due("back(0)", 0, "suitor(5, 5)", 0, "hear(7, 0, 1)", 1, "law lasts 51", 0, "back(1)", 0, "at(0, 0)", 1,
+            "which()", 1, "compare(0)", 22);
     }
 }

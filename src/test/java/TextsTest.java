@@ -510,7 +510,8 @@ public final class TextsTest {
             s.due("law bars if " + words[i] + "=" + worths[i], 1, "force(1)", 0, "asks(1, 2, 2)", 1);
             s.due("law bars if not " + words[i] + "=" + worths[i], 2, "force(2)", 1, "asks(1, 2, 2)", 0);
         }
-        for (String word : new String[] {"done", "latest", "couples", "left 1", "notes 1", "left", "tooth", "if", "not", "lasts"}) {
+        for (String word : new String[] {"done", "latest", "couples", "left 1", "notes 1", "left", "tooth", "if", "not",
+            "lasts"}) {
             law("likes " + word, word.equals("notes 1") ? 12 : 6);
         }
 
@@ -532,9 +533,11 @@ public final class TextsTest {
         says("\"lasts\", \"loses\" are asked of a BOX (suitor, ear, wants -1), \"likes\", \"bars\" of a BOX and a SUITOR.");
         for (String word : new String[] {"suitor", "ear", "wants"}) {
             told().due("law lasts " + word + "+5;loses " + word + "+5", 0, "force(0)", -1, "of(1, 5)", 4, "of(1, 6)", 4);
-            told().due("law lasts 3 if " + word + "<0;loses 3 if " + word + "=0-1", 0, "force(0)", -1, "of(1, 5)", 3, "of(1, 6)", 3);
+            told().due("law lasts 3 if " + word + "<0;loses 3 if " + word + "=0-1", 0, "force(0)", -1, "of(1, 5)", 3,
+                "of(1, 6)", 3);
         }
-        told().due("law lasts box*10+broken;loses spring", 0, "force(0)", -1, "of(1, 5)", 13, "of(0, 5)", 0, "of(1, 6)", 7, "of(0, 6)", 2);
+        told().due("law lasts box*10+broken;loses spring", 0, "force(0)", -1, "of(1, 5)", 13, "of(0, 5)", 0, "of(1, 6)", 7,
+            "of(0, 6)", 2);
         // A wed box is asked as any other.
         told().due("wed(1, 2)", 9, "law lasts wants+6", 0, "force(0)", -1, "of(1, 5)", 5, "compare(0)", 10);
     }
@@ -549,7 +552,8 @@ public final class TextsTest {
         lasts("lasts 4/0 if 1=1", 7);
         lasts("lasts 3;lasts 4/0 if 1=1", 3);
         lasts("lasts 3;lasts 4 if 1/0=1", 3);
-        Scene s = new Scene("box(7)", "suitor(0, 0)", "pins(0, 0, 1)", "law bars if 1/0=1;likes 5/0;loses 5/0;likes 8 if 1/0=0", "force(0)");
+        Scene s = new Scene("box(7)", "suitor(0, 0)", "pins(0, 0, 1)",
+            "law bars if 1/0=1;likes 5/0;loses 5/0;likes 8 if 1/0=0", "force(0)");
         s.due("asks(0, 0, 1)", 1, "asks(0, 0, 2)", 0, "of(0, 6)", 0);
     }
 
@@ -592,16 +596,19 @@ public final class TextsTest {
             s.due("asks(0, 0, 1)", likes[i], "of(0, 6)", loses, "pass()", 1, "of(0, 0)", 20 - loses);
         }
         Scene s = new Scene("box(5)", "suitor(3, 0)", "law likes 7 if 1=2;loses 7 if 1=2;lasts 9");
-        s.due("asks(0, 0, 1)", 0, "of(0, 6)", 0, "pins(0, 0, 8)", 0, "asks(0, 0, 1)", 1, "force(0)", -1, "asks(0, 0, 1)", 1, "of(0, 6)", 0);
+        s.due("asks(0, 0, 1)", 0, "of(0, 6)", 0, "pins(0, 0, 8)", 0, "asks(0, 0, 1)", 1, "force(0)", -1, "asks(0, 0, 1)", 1,
+            "of(0, 6)", 0);
         s.due("pass()", 1, "of(0, 0)", 5, "law likes 1;likes 2;loses 3;loses 4;likes 9 if 1=2;loses 9/0", 1, "force(1)", 0);
         s.due("asks(0, 0, 1)", 2, "of(0, 6)", 4);
     }
 
     private static void barred() {
         says("they are BARRED, if \"bars\" HOLDS.");
-        Scene s = new Scene("box(3)", "box(3)", "suitor(0, 0)", "law bars", "law bars if box=1;bars if box=7", "law bars if 1/0=1", "law lasts 9");
+        Scene s = new Scene("box(3)", "box(3)", "suitor(0, 0)", "law bars", "law bars if box=1;bars if box=7",
+            "law bars if 1/0=1", "law lasts 9");
         s.due("asks(0, 0, 2)", 0, "force(0)", -1, "asks(0, 0, 2)", 1, "asks(1, 0, 2)", 1, "force(1)", 0, "asks(0, 0, 2)", 0);
-        s.due("asks(1, 0, 2)", 1, "force(2)", 1, "asks(1, 0, 2)", 0, "force(3)", 2, "asks(1, 0, 2)", 0, "wed(1, 0)", 9, "force(0)", 3);
+        s.due("asks(1, 0, 2)", 1, "force(2)", 1, "asks(1, 0, 2)", 0, "force(3)", 2, "asks(1, 0, 2)", 0, "wed(1, 0)", 9,
+            "force(0)", 3);
         s.due("asks(1, 0, 2)", 1, "of(1, 4)", 9);
     }
 
@@ -640,7 +647,8 @@ public final class TextsTest {
 
         says("(a TOOTH, a BAR, a BOX; a TOOTH, a BOX; a BOX, a SUITOR; a YEAR.)");
         Scene s = new Scene("box(1)", "box(5)", "suitor(0, 0)", "suitor(0, 0)", "pins(1, 7, 129)", "pins(0, 1, 1)");
-        s.due("orders pull 7 at 7 of 1", 1, "of(1, 14)", 1, "of(0, 8)", 1, "orders snap 7 of 0", 1, "of(0, 2)", 128, "of(1, 2)", 0);
+        s.due("orders pull 7 at 7 of 1", 1, "of(1, 14)", 1, "of(0, 8)", 1, "orders snap 7 of 0", 1, "of(0, 2)", 128,
+            "of(1, 2)", 0);
         s.due("orders wed 0 to 1", 1, "of(0, 3)", 1, "orders pass", 1, "count(13)", 1, "count(5)", 4);
         s.due("undo()", 3, "undo()", 2, "undo()", 1, "undo()", 0, "of(1, 14)", 129);
     }
@@ -658,7 +666,8 @@ public final class TextsTest {
         orders("pass times [1]", 11);
         orders("pass times 1+1", 12);
         orders("pass times 007", -1);
-        new Scene().due("orders pass times 1", 1, "count(13)", 1, "orders pass times 20", 20, "count(13)", 21, "orders pass", 1, "count(13)", 22);
+        new Scene().due("orders pass times 1", 1, "count(13)", 1, "orders pass times 20", 20, "count(13)", 21,
+            "orders pass", 1, "count(13)", 22);
 
         says("Run CLAUSE by CLAUSE, each as often as TIMES tell (once without)");
         new Scene().due("orders pass times 2;pass;pass times 3", 6, "count(13)", 6, "count(5)", 6);
@@ -716,9 +725,12 @@ public final class TextsTest {
 
     private static void notRun() {
         says("One that can't be (a BROKEN SUM, as pull(), snap(), wed(), pass() are REFUSED) ends it");
-        String[] cant = {"pull 1/0 at 0 of 0", "pull 0 at 1/0 of 0", "pull 0 at 0 of 1/0", "pull 8 at 0 of 0", "pull 0-1 at 0 of 0",
-            "pull 0 at 8 of 0", "pull 0 at 0-1 of 0", "pull 0 at 0 of 3", "pull 0 at 0 of 0-1", "pull 0 at 0 of 0", "snap 1/0 of 1",
-            "snap 0 of 1/0", "snap 8 of 1", "snap 0-1 of 1", "snap 0 of 3", "snap 0 of 0-1", "snap 1 of 1", "wed 1/0 to 0", "wed 1 to 0%0",
+        String[] cant = {"pull 1/0 at 0 of 0", "pull 0 at 1/0 of 0", "pull 0 at 0 of 1/0", "pull 8 at 0 of 0",
+            "pull 0-1 at 0 of 0",
+            "pull 0 at 8 of 0", "pull 0 at 0-1 of 0", "pull 0 at 0 of 3", "pull 0 at 0 of 0-1", "pull 0 at 0 of 0",
+                "snap 1/0 of 1",
+            "snap 0 of 1/0", "snap 8 of 1", "snap 0-1 of 1", "snap 0 of 3", "snap 0 of 0-1", "snap 1 of 1", "wed 1/0 to 0",
+                "wed 1 to 0%0",
             "wed 3 to 0", "wed 0-1 to 0", "wed 1 to 3", "wed 1 to 0-1", "wed 0 to 0", "wed 1 to 1", "wed 2 to 0",
             "wed 1000*1000*1000 to 0", "snap 1000*1000*1000+1 of 1"};
         for (String order : cant) {
@@ -732,7 +744,8 @@ public final class TextsTest {
 
     private static void allOrNothing() {
         says("all is as it was ahead of it.");
-        String[] ahead = {"pull 2 at 0 of 0", "snap 0 of 0", "wed 1 to 0", "pass", "pass times 20", "pull 2 at 0 of 0;snap 7 of 1;wed 1 to 2;pass times 3"};
+        String[] ahead = {"pull 2 at 0 of 0", "snap 0 of 0", "wed 1 to 0", "pass", "pass times 20",
+            "pull 2 at 0 of 0;snap 7 of 1;wed 1 to 2;pass times 3"};
         int[] clauses = {1, 1, 1, 1, 1, 4};
         for (int i = 0; i < ahead.length; i++) {
             Scene s = Scene.ofAll();
