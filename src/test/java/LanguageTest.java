@@ -14,10 +14,6 @@ import java.util.regex.Pattern;
 
 /** What can be told of ../shared/LANGUAGE.md from the class's face and its source's text (.ci/run starts it in the root). */
 public final class LanguageTest {
-    private static final String FACE = "box/1 of/2 pins/3 suitor/2 at/2 asks/3 terms/2 feed/5 end/1 row/0 rust/0 law/0 orders/0"
-        + " fault/0 stopped/0 force/1 pull/3 snap/2 wed/2 pass/0 undo/0 hear/3 forget/0 which/0 listen/1 steady/1 about/2"
-        + " keep/3 clash/3 best/3 filed/4 shares/2 again/2 ends/1 stands/2 compare/1 generations/2 drawn/2 image/1 back/1"
-        + " count/1 status/0";
     private static int wrong = 0;
 
     private static void want(boolean so, String rule) {
@@ -28,7 +24,7 @@ public final class LanguageTest {
     }
 
     public static void main(String[] args) throws Exception {
-        face();
+        face(Files.readString(Path.of("../shared/DOC.md")));
         classesInside();
         source(Files.readString(Path.of("src/main/java/DowryBoxes.java")));
         if (wrong != 0) {
@@ -37,31 +33,66 @@ public final class LanguageTest {
         System.out.println("the language is kept");
     }
 
-    private static void face() {
-        Class<?> c = DowryBoxes.class;
+    /** The document's own lines: every public method, constant and constructor of it, with its types, and no other. */
+    private static void face(String document) {
+        int from = document.indexOf("public final class DowryBoxes {");
+        String block = document.substring(from, document.indexOf("```", from));
+        Set<String> due = new TreeSet<>();
+        Matcher member = Pattern.compile("public (?:static final (\\w+ \\w+ = -?\\d+)|((?:\\w+ )?\\w+)\\(([^)]*)\\));").matcher(block);
+        while (member.find()) {
+            due.add(member.group(1) != null ? member.group(1)
+                : member.group(2) + "(" + member.group(3).replaceAll("(\\w+) \\w+", "$1") + ")");
+        }
+        want(due.size() == 44, "1: the document's face has a constant, a constructor, 42 methods, not " + due.size());
+        Set<String> there = openMembers(DowryBoxes.class);
+        want(there.equals(due), "1: the face " + due + ", not " + there);
+    }
+
+    private static Set<String> openMembers(Class<?> c) {
         want(Modifier.isPublic(c.getModifiers()) && Modifier.isFinal(c.getModifiers()), "1: public and final");
+        want(c.getSuperclass() == Object.class && c.getInterfaces().length == 0, "1: a class of its own");
         Set<String> open = new TreeSet<>();
-        Set<String> names = new HashSet<>();
-        Set<String> hidden = new HashSet<>();
         for (Method m : c.getDeclaredMethods()) {
-            if (Modifier.isPrivate(m.getModifiers())) {
-                hidden.add(m.getName());
-            } else {
-                open.add(m.getName() + "/" + m.getParameterCount());
-                names.add(m.getName());
+            if (!Modifier.isPrivate(m.getModifiers())) {
+                open.add(m.getReturnType() + " " + m.getName() + types(m.getParameterTypes()));
                 want(Modifier.isPublic(m.getModifiers()) && !Modifier.isStatic(m.getModifiers()), "1: " + m);
-                want(m.getReturnType() == (m.getName().equals("stands") ? long.class : int.class), "1: the type of " + m);
+                want(m.getExceptionTypes().length == 0, "6: " + m);
             }
         }
-        want(open.equals(new TreeSet<>(Arrays.asList(FACE.split(" ")))), "1: the methods of the face, not " + open);
-        hidden.retainAll(names);
-        want(hidden.isEmpty(), "1: private methods with public names " + hidden);
         for (Field f : c.getDeclaredFields()) {
-            want(Modifier.isPrivate(f.getModifiers()) || f.getName().equals("NONE"), "1: " + f);
+            if (!Modifier.isPrivate(f.getModifiers())) {
+                open.add(f.getType() + " " + f.getName() + " = " + DowryBoxes.NONE);
+                want(Modifier.isPublic(f.getModifiers()) && Modifier.isStatic(f.getModifiers()), "1: " + f);
+            }
         }
-        Constructor<?>[] constructors = c.getDeclaredConstructors();
-        want(constructors.length == 1 && constructors[0].getParameterCount() == 0
-            && Modifier.isPublic(constructors[0].getModifiers()), "1: the constructor");
+        for (Constructor<?> constructor : c.getDeclaredConstructors()) {
+            open.add(c.getName() + types(constructor.getParameterTypes()));
+            want(Modifier.isPublic(constructor.getModifiers()), "1: " + constructor);
+        }
+        return open;
+    }
+
+    private static String types(Class<?>[] types) {
+        StringBuilder b = new StringBuilder();
+        for (Class<?> type : types) {
+            b.append(b.length() == 0 ? "" : ", ").append(type);
+        }
+        return "(" + b + ")";
+    }
+
+    /** Methods inside count, too. */
+    private static void privateNames(Class<?>... classes) {
+        Set<String> names = new HashSet<>();
+        for (Method m : DowryBoxes.class.getDeclaredMethods()) {
+            if (Modifier.isPublic(m.getModifiers())) {
+                names.add(m.getName());
+            }
+        }
+        for (Class<?> c : classes) {
+            for (Method m : c.getDeclaredMethods()) {
+                want(!Modifier.isPrivate(m.getModifiers()) || !names.contains(m.getName()), "1: a private " + m);
+            }
+        }
     }
 
     private static void classesInside() {
@@ -72,6 +103,8 @@ public final class LanguageTest {
             count(c);
         }
         count(DowryBoxes.class);
+        privateNames(inside);
+        privateNames(DowryBoxes.class);
     }
 
     private static void count(Class<?> c) {
