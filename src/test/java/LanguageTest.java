@@ -38,7 +38,8 @@ public final class LanguageTest {
         int from = document.indexOf("public final class DowryBoxes {");
         String block = document.substring(from, document.indexOf("```", from));
         Set<String> due = new TreeSet<>();
-        Matcher member = Pattern.compile("public (?:static final (\\w+ \\w+ = -?\\d+)|((?:\\w+ )?\\w+)\\(([^)]*)\\));").matcher(block);
+        Pattern line = Pattern.compile("public (?:static final (\\w+ \\w+ = -?\\d+)|((?:\\w+ )?\\w+)\\(([^)]*)\\));");
+        Matcher member = line.matcher(block);
         while (member.find()) {
             due.add(member.group(1) != null ? member.group(1)
                 : member.group(2) + "(" + member.group(3).replaceAll("(\\w+) \\w+", "$1") + ")");

@@ -11,7 +11,10 @@ import java.util.stream.Stream;
 import javax.tools.JavaCompiler;
 import javax.tools.ToolProvider;
 
-/** README.md: its examples compile and answer what it says, and it names every call and every test (.ci/run starts it in the root). */
+/**
+ * README.md: its examples compile and answer what it says, and it names every call and every test (.ci/run starts it in
+ * the root).
+ */
 public final class ReadmeTest {
     private static final Pattern BLOCK = Pattern.compile("(?s)```java\n(.*?)```");
     private static final Pattern ANSWERED =
